@@ -242,7 +242,6 @@ public final class NamedWind {
             return STATE;
         }
         dream.copyFrom(sea);
-        dream.forgetCalls();
         int seedThen = dream.passYears(current, days, seed);
         switch (what) {
             case 0: return dream.homeCount();
@@ -268,7 +267,6 @@ public final class NamedWind {
             return STATE;
         }
         sea.copyFrom(kept);
-        sea.forgetCalls();
         trail.end();
         return sea.ships;
     }
@@ -641,10 +639,11 @@ public final class NamedWind {
             turned = 0;
         }
 
+        /** It is as the other one, but calls nothing yet. */
         private void copyFrom(Ship other) {
             kind = other.kind;
             place = other.place;
-            call = other.call;
+            call = NONE;
             served = other.served;
             turned = other.turned;
         }
@@ -693,6 +692,7 @@ public final class NamedWind {
             answers = 0;
         }
 
+        /** It goes on from the other one; nobody calls yet. */
         private void copyFrom(Sea other) {
             for (int i = 0; i < MOST_SHIPS; i++) {
                 fleet[i].copyFrom(other.fleet[i]);
@@ -711,12 +711,6 @@ public final class NamedWind {
             fleet[ships].begin(kind, place);
             ships++;
             return ships - 1;
-        }
-
-        private void forgetCalls() {
-            for (int ship = 0; ship < ships; ship++) {
-                fleet[ship].call = NONE;
-            }
         }
 
         private boolean isSpent(int name) {
@@ -783,8 +777,8 @@ public final class NamedWind {
                     answer(book, ship, wind);
                 }
                 ship.place = placeAfter(book, ship.kind, ship.place, ship.call, wind);
+                ship.call = NONE;
             }
-            forgetCalls();
             days++;
         }
 

@@ -203,6 +203,9 @@ public final class BookTest {
         x.ship(0, 9);
         x.call(0, 5);
         x.blow(0);
+        x.call(0, 0);
+        x.blow(0);
+        x.call(0, 1);
         x.wake(0, 2);
         x.then(3);
         x.image();
@@ -217,8 +220,11 @@ public final class BookTest {
         Check.due("the wake is gone", x.called(), STATE);
         Check.due("the image is gone", x.restore(), STATE);
         Check.due("ships are gone", x.about(0, 0), UNKNOWN);
-        Check.due("a new ship is the first", x.ship(4, 9), 0);
-        Check.due("it has no past", x.about(0, 4), 0);
+        Check.due("a new ship is the first", x.ship(4, 8), 0);
+        int[] about = {4, 8, NONE, 0, 0};
+        for (int what = 0; what < about.length; what++) {
+            Check.due("it has no past: about " + what, x.about(0, what), about[what]);
+        }
         Check.write(x, "4:123/-:321/5:500/-:000");
         Check.due("a third book", x.book(), 2);
         Check.due("its wind", x.windOf(5), 2);

@@ -49,6 +49,15 @@ final class Check {
         return sea;
     }
 
+    /** The same with ships, each by its kind and its place. */
+    static NamedWind seaWith(String book, int... kindsAndPlaces) {
+        NamedWind x = seaOf(book);
+        for (int i = 0; i + 1 < kindsAndPlaces.length; i += 2) {
+            x.ship(kindsAndPlaces[i], kindsAndPlaces[i + 1]);
+        }
+        return x;
+    }
+
     private static int names(String book) {
         int names = 0;
         for (String part : book.split("/")) {

@@ -24,17 +24,9 @@ public final class ToldBackTest {
         Check.end();
     }
 
-    private static NamedWind seaWith(String book, int... kindsAndPlaces) {
-        NamedWind x = Check.seaOf(book);
-        for (int i = 0; i + 1 < kindsAndPlaces.length; i += 2) {
-            x.ship(kindsAndPlaces[i], kindsAndPlaces[i + 1]);
-        }
-        return x;
-    }
-
     /** Promise 20. */
     private static void guesses() {
-        NamedWind x = seaWith(BOOK, MASTER, 5, MASTER, 5);
+        NamedWind x = Check.seaWith(BOOK, MASTER, 5, MASTER, 5);
         for (int name = 0; name < 6; name++) {
             Check.due("nothing is known of " + name, x.guess(name), 31);
         }
@@ -63,7 +55,7 @@ public final class ToldBackTest {
     }
 
     private static void guessesByAnswersAlone() {
-        NamedWind x = seaWith("01:500/-:050/-:005/-:000", SHIP, 3, SHIP, 3);
+        NamedWind x = Check.seaWith("01:500/-:050/-:005/-:000", SHIP, 3, SHIP, 3);
         x.call(0, 0);
         x.call(1, 1);
         x.blow(0);
@@ -74,7 +66,7 @@ public final class ToldBackTest {
     }
 
     private static void fortyAnswers() {
-        NamedWind x = seaWith("01:555/-:000/-:000/-:000",
+        NamedWind x = Check.seaWith("01:555/-:000/-:000/-:000",
                 MASTER, 3, MASTER, 3, MASTER, 3, MASTER, 3, MASTER, 3, MASTER, 3);
         for (int day = 0; day < 6; day++) {
             for (int ship = 0; ship < 6; ship++) {
@@ -102,7 +94,7 @@ public final class ToldBackTest {
 
     /** Promises 21 and 22. */
     private static void wakes() {
-        NamedWind x = seaWith(BOOK, SHIP, 3, FAST, 9);
+        NamedWind x = Check.seaWith(BOOK, SHIP, 3, FAST, 9);
         Check.due("none before", x.wake(0, 4), 0);
         Check.due("no days yet", x.called(), 1);
         for (int day = 1; day <= 6; day++) {
@@ -122,7 +114,7 @@ public final class ToldBackTest {
     }
 
     private static void wakesRefused() {
-        NamedWind x = seaWith(BOOK, SHIP, 3);
+        NamedWind x = Check.seaWith(BOOK, SHIP, 3);
         Check.due("then: none was begun", x.then(10), STATE);
         Check.due("called: none was begun", x.called(), STATE);
         Check.due("by: none was begun", x.by(-1), STATE);
@@ -158,7 +150,7 @@ public final class ToldBackTest {
 
     /** Promise 23. */
     private static void waysOfKinds() {
-        NamedWind x = seaWith(BOOK, SHIP, 0, FAST, 0, HEAVY, 9, PILOT, 9, MASTER, 0);
+        NamedWind x = Check.seaWith(BOOK, SHIP, 0, FAST, 0, HEAVY, 9, PILOT, 9, MASTER, 0);
         int[][] want = {
             {0, 20, 2, 0, 2, 4, 0, 0}, {0, 20, 2, 0, 2, 0, 4, 0}, {0, 0, 22, 0, 6, 0, 0, 0},
             {0, 0, 22, 0, 2, 4, 0, 0}, {0, 0, 22, 0, 2, 4, 0, 0}};
@@ -174,18 +166,18 @@ public final class ToldBackTest {
     }
 
     private static void waysOfDays() {
-        NamedWind x = seaWith(BOOK, SHIP, 0, HEAVY, 0);
+        NamedWind x = Check.seaWith(BOOK, SHIP, 0, HEAVY, 0);
         Check.due("two days", ways(x, 0, 4, 6, 5), 8);
         Check.due("three days", ways(x, 0, 4, 6, 5, 3), 160);
         Check.due("one of them can't be", ways(x, 0, 4, 6, 6, 3), 0);
         Check.due("back and on", ways(x, 1, 4, 3, 4, 3, 4), 22 * 6 * 22 * 6);
-        NamedWind most = seaWith("-:111/-:111/-:111/-:111", SHIP, 0);
+        NamedWind most = Check.seaWith("-:111/-:111/-:111/-:111", SHIP, 0);
         Check.due("most of all ways", ways(most, 0, 0, 0, 0, 0, 0, 0, 0), 1291467969);
         Check.due("nothing is spent by that", most.count(3), 0);
     }
 
     private static void waysAtTheEnds() {
-        NamedWind x = seaWith(BOOK, SHIP, 0, FAST, 0);
+        NamedWind x = Check.seaWith(BOOK, SHIP, 0, FAST, 0);
         Check.due("stays at 0", ways(x, 0, 0, 0), 22);
         Check.due("from 1 to 0", ways(x, 0, 1, 0), 22);
         Check.due("from 8 home", ways(x, 0, 8, 9), 6);
@@ -199,27 +191,27 @@ public final class ToldBackTest {
     }
 
     private static void waysOfWinds() {
-        NamedWind x = seaWith("0:090/1:000/-:010/-:000", SHIP, 0);
+        NamedWind x = Check.seaWith("0:090/1:000/-:010/-:000", SHIP, 0);
         Check.due("a wind that never blows", ways(x, 0, 4, 6), 1);
         Check.due("drift by wind 0 alone", ways(x, 0, 4, 5), 1);
         Check.due("drift back by wind 2 alone", ways(x, 0, 4, 3), 1);
         Check.due("turned on", ways(x, 0, 4, 2), 1 + 5 * 2);
         Check.due("a calm by two signs", ways(x, 0, 4, 4), 7);
         Check.due("home by two winds or a calm", ways(x, 0, 9, 9), 3);
-        NamedWind calm = seaWith("-:000/-:000/-:000/-:000", SHIP, 0);
+        NamedWind calm = Check.seaWith("-:000/-:000/-:000/-:000", SHIP, 0);
         Check.due("calms alone", ways(calm, 0, 4, 4), 7);
         Check.due("nothing blows", ways(calm, 0, 4, 5), 0);
     }
 
     /** Promise 24. */
     private static void calledBy() {
-        NamedWind x = seaWith("3:333/4:300/-:333/-:133", SHIP, 0, HEAVY, 0, FAST, 0);
+        NamedWind x = Check.seaWith("3:333/4:300/-:333/-:133", SHIP, 0, HEAVY, 0, FAST, 0);
         ways(x, 0, 4, 5, 7, 6, 8, 9, 9);
         int[] want = {NONE, 6, NONE, 6, 6, NONE};
         for (int day = 0; day < 6; day++) {
             Check.due("by on day " + day, x.by(day), want[day]);
         }
-        NamedWind one = seaWith("-:333/4:300/-:333/-:133", SHIP, 0, HEAVY, 0);
+        NamedWind one = Check.seaWith("-:333/4:300/-:333/-:133", SHIP, 0, HEAVY, 0);
         ways(one, 0, 1, 3, 4);
         Check.due("just one name", one.by(0), 4);
         Check.due("nothing was called", one.by(1), NONE);
@@ -245,32 +237,32 @@ public final class ToldBackTest {
     }
 
     private static void yearsOfShips() {
-        NamedWind drifts = seaWith(BOOK, SHIP, 4);
+        NamedWind drifts = Check.seaWith(BOOK, SHIP, 4);
         Check.due("sign 0, calls none, wind 0: place", drifts.years(1, 0, 1), 5);
         Check.due("spent", drifts.years(1, 0, 2), 0);
         Check.due("three draws", drifts.years(1, 0, 3), 654583775);
         // Seed 1: sign 2, name 4, then 3 of 10: not above 3 are the tenths of wind 0, but those of 0 and 1 are.
         String book = "01:903/24:053/-:053/3:101";
-        NamedWind served = seaWith(book, SHIP, 4);
+        NamedWind served = Check.seaWith(book, SHIP, 4);
         Check.due("served", served.years(1, 1, 1), 6);
         Check.due("spent by it", served.years(1, 1, 2), 1);
-        NamedWind master = seaWith(book, MASTER, 7);
+        NamedWind master = Check.seaWith(book, MASTER, 7);
         Check.due("a master is served", master.years(1, 1, 0), 1);
         Check.due("a master does not spend", master.years(1, 1, 2), 0);
-        NamedWind beside = seaWith(book, FAST, 9, SHIP, 4);
+        NamedWind beside = Check.seaWith(book, FAST, 9, SHIP, 4);
         Check.due("who is home draws nothing", beside.years(1, 1, 1), 15);
         Check.due("nor is it counted twice", beside.years(1, 1, 0), 1);
         Check.due("nor the seed", beside.years(1, 1, 3), 662824084);
         // Two ships: names 4 and 5 (of none), then 5 of 10: wind 1.
-        NamedWind two = seaWith(book, FAST, 4, FAST, 4);
+        NamedWind two = Check.seaWith(book, FAST, 4, FAST, 4);
         Check.due("in their order", two.years(1, 1, 1), 9);
         Check.due("both spend", two.years(1, 1, 2), 2);
-        NamedWind calm = seaWith("4:000/-:000/-:000/-:000", SHIP, 4);
+        NamedWind calm = Check.seaWith("4:000/-:000/-:000/-:000", SHIP, 4);
         Check.due("a calm", calm.years(60, 1, 1), 4);
     }
 
     private static void yearsStay() {
-        NamedWind x = seaWith("01:903/24:053/-:053/3:101", SHIP, 4, MASTER, 9);
+        NamedWind x = Check.seaWith("01:903/24:053/-:053/3:101", SHIP, 4, MASTER, 9);
         x.call(0, 4);
         long before = x.digest();
         Check.due("spent now: none is called", x.years(1, 1, 1), 14);
@@ -286,7 +278,7 @@ public final class ToldBackTest {
     }
 
     private static void yearsRefused() {
-        NamedWind x = seaWith(BOOK, SHIP, 4);
+        NamedWind x = Check.seaWith(BOOK, SHIP, 4);
         NamedWind none = new NamedWind();
         for (int bad : new int[] {-1, 0, 61, Integer.MAX_VALUE, Integer.MIN_VALUE}) {
             Check.due("years: days " + bad, x.years(bad, 0, 0), OUTSIDE);
