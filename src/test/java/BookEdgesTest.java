@@ -33,6 +33,7 @@ public final class BookEdgesTest {
         tenTogetherOrFewer();
         noBookOrSixNames();
         anotherOneIsGone();
+        newShipsHaveNoPast();
         thePageIsEmptyThen();
         tenthsOfACalm();
         nameOfNone();
@@ -472,6 +473,33 @@ public final class BookEdgesTest {
         Check.due("no wake was begun", wakes.then(4), STATE);
         wakes.ship(0, 3);
         Check.due("of the next one, too", wakes.wake(0, 3), 0);
+    }
+
+    private static void newShipsHaveNoPast() {
+        Check.sentence("another one is gone, with SHIPS (what they called, and how often each was SERVED, TURNED on)");
+        NamedWind x = Check.seaWith(LONGEST, 4, 3, 4, 3, 0, 3, 0, 3, 0, 3, 0, 3);
+        for (int day = 0; day < 2; day++) {
+            x.call(0, 0);
+            x.call(1, 5);
+            x.blow(day);
+        }
+        for (int ship = 0; ship < 6; ship++) {
+            x.call(ship, 5 - ship);
+        }
+        again(x);
+        for (int ship = 0; ship < 6; ship++) {
+            x.ship(ship % 4, 4);
+            int[] want = {ship % 4, 4, NONE, 0, 0};
+            for (int what = 0; what < 5; what++) {
+                Check.due("ship " + ship + ": about " + what, x.about(ship, what), want[what]);
+            }
+            // What one that is gone called is spent by nobody.
+            for (int name = 0; name < 6; name++) {
+                x.call(ship, name);
+                Check.due("in place", x.call(ship, NONE), name);
+                Check.due("not spent", x.spent(name), 0);
+            }
+        }
     }
 
     private static int sixShips(NamedWind x) {

@@ -18,6 +18,7 @@ public final class ForecastEdgesTest {
         likelyOfWhoIsHome();
         likelyAtTheEnds();
         lowestTerms();
+        whateverBlows();
         onlyNamesNotSpentNow();
         allNamesSpent();
         calledNamesAreSpentAhead();
@@ -143,6 +144,22 @@ public final class ForecastEdgesTest {
             of *= tenths % 5 == 0 ? 5 : 1;
             likely(one, 0, 1, tenths / of, 30 / of);
         }
+    }
+
+    /** From 8: on in five of ten; back in three, and stayed in two, and then the name in five of ten. */
+    private static void whateverBlows() {
+        Check.sentence("a WIND blows, or there is a CALM (how likely by its TENTHS)");
+        NamedWind x = Check.seaWith("0:555/-:000/-:333/-:000", SHIP, 8, HEAVY, 8, SHIP, 7);
+        likely(x, 0, 1, 1, 2);
+        likely(x, 0, 2, 3, 4);
+        // A heavy needs a day more from 7: on at once, or by a calm and on.
+        likely(x, 1, 2, 3, 5);
+        // By the name at once, or on by drift and the name, or stayed and the name; not when it was turned back.
+        likely(x, 2, 2, 1, 2);
+        NamedWind y = Check.seaWith("-:111/-:222/-:333/-:000", MASTER, 8);
+        likely(y, 0, 1, 3, 10);
+        likely(y, 0, 2, 21, 50);
+        likely(y, 0, 3, 99, 200);
     }
 
     private static void onlyNamesNotSpentNow() {

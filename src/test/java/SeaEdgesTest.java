@@ -275,6 +275,20 @@ public final class SeaEdgesTest {
                 Check.due("spent by nobody", x.spent(name), 0);
             }
         }
+        for (int first = 0; first < 6; first++) {
+            for (int second = 0; second < 6; second++) {
+                if (first != second) {
+                    NamedWind six = Check.seaWith(BOOK, SHIP, 4, SHIP, 4, SHIP, 4, SHIP, 4, SHIP, 4, SHIP, 4);
+                    six.call(first, 3);
+                    six.moon();
+                    six.call(second, 3);
+                    Check.due(second + " in place", six.call(second, 4), 3);
+                    Check.due("spent by " + first, six.spent(3), 1);
+                    Check.due(first + " in place", six.call(first, NONE), 3);
+                    Check.due("spent by none of six", six.spent(3), 0);
+                }
+            }
+        }
         NamedWind x = Check.seaWith(BOOK, SHIP, 4, MASTER, 4, FAST, 4);
         x.call(1, 3);
         x.call(2, 3);
