@@ -1,4 +1,4 @@
-/** Promises 15, 16, 17 and 19: what to call, and the race. */
+/** Promises 15 to 17 and 19: what to call, and the race. */
 public final class CallingTest {
     private static final int UNKNOWN = NamedWind.UNKNOWN, OUTSIDE = NamedWind.OUTSIDE, NONE = NamedWind.NONE;
     private static final int SHIP = 0, FAST = 1, HEAVY = 2, PILOT = 3, MASTER = 4;
