@@ -8,6 +8,8 @@ import java.nio.file.Path;
 import java.util.List;
 import java.util.Set;
 import java.util.TreeSet;
+import java.util.regex.MatchResult;
+import java.util.regex.Pattern;
 
 /** The public face, and what of LANGUAGE.md shows from outside or in the text (the argument: its path). */
 public final class FaceTest {
@@ -21,6 +23,10 @@ public final class FaceTest {
     private static final Set<String> CONSTANTS = Set.of("NONE", "UNKNOWN", "OUTSIDE", "STATE", "FULL");
     private static final String[] NOT_IN_THE_TEXT = {"throw", "catch", "finally", "->", "::", "synchronized",
         "assert ", "Exact(", "import static", "System.out", "Random", "Thread", "package "};
+    /** What the class takes of rule 4; more of that rule may be added here. */
+    private static final Set<String> LIBRARY =
+            Set.of("Arrays.fill", "Integer.bitCount", "Math.max", "Math.min", "System.arraycopy");
+    private static final Pattern LIBRARY_CALL = Pattern.compile("\\b[A-Z]\\w*\\.[a-z]\\w*(?=\\()");
     private static final int LONGEST_METHOD = 60, MOST_CLASSES = 12, MOST_FIELDS = 20, MOST_PARAMETERS = 7;
 
     public static void main(String[] args) throws IOException {
@@ -96,6 +102,8 @@ public final class FaceTest {
             for (String not : NOT_IN_THE_TEXT) {
                 Check.holds("no " + not + " in line " + (i + 1), isComment || !line.contains(not));
             }
+            LIBRARY_CALL.matcher(line).results().map(MatchResult::group)
+                    .forEach(call -> Check.holds(call + " is of the library", LIBRARY.contains(call)));
             if (line.startsWith("import ")) {
                 Check.holds("import in line " + (i + 1), line.equals("import java.util.Arrays;"));
             }
